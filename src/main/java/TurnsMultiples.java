@@ -864,7 +864,6 @@ public final class TurnsMultiples {
 
         private void wipe() {
             length = 0;
-            at = 0;
         }
 
         private void rewind() {
@@ -895,7 +894,6 @@ public final class TurnsMultiples {
         private boolean readStatement() {
             head = signHere();
             numberCount = 0;
-            digitCount = 0;
             if (takes('n') || takes('s')) {
                 return readDigits(2) && takes(';');
             }

@@ -13,6 +13,9 @@ public final class TurnsMultiplesModelTest {
         for (int seed = 1; seed <= 400 && wrong == 0; seed++) {
             run(new Random(seed), seed);
         }
+        for (int seed = 1001; seed <= 3000 && wrong == 0; seed++) {
+            crowd(new Random(seed), seed);
+        }
         System.out.println(wrong == 0 ? "all runs are as the model's" : wrong + " answers are not as the model's");
         if (wrong != 0) {
             System.exit(1);
@@ -40,6 +43,45 @@ public final class TurnsMultiplesModelTest {
             }
             compare(x, model, 7, 0, 0, 0, calls, seed);
         }
+    }
+
+    /** Few doors, many people: what needs many goings comes up, and images are gone on from. */
+    private static void crowd(Random random, int seed) {
+        TurnsMultiples x = new TurnsMultiples();
+        Model model = new Model();
+        List<String> calls = new ArrayList<>();
+        int doors = 1 + random.nextInt(5);
+        StringBuilder text = new StringBuilder("n" + doors + ";k" + (random.nextInt(3) == 0 ? 2 : 3) + ";");
+        for (int people = 1 + random.nextInt(6); people > 0; people--) {
+            text.append('p').append("mdbexu".charAt(random.nextInt(6))).append(1 + random.nextInt(doors)).append(',')
+                    .append(1 + random.nextInt(doors)).append(',').append(random.nextInt(10)).append(';');
+        }
+        tell(x, model, text.toString(), calls, seed);
+        int[] asked = {10, 11, 12, 14, 15, 16, 17, 24};
+        while (calls.size() < 200) {
+            tell(x, model, Texts.digits(random, 'w', doors, model.colours), calls, seed);
+            if (random.nextInt(4) == 0) {
+                tell(x, model, Texts.digits(random, 'h', doors, model.colours), calls, seed);
+            }
+            compare(x, model, 27, 0, 0, 0, calls, seed);
+            compare(x, model, 27, 0, 1, 1, calls, seed);
+            compare(x, model, asked[random.nextInt(asked.length)], 0, 0, 0, calls, seed);
+            for (int i = random.nextInt(4); i > 0; i--) {
+                compare(x, model, 21, random.nextInt(4) == 0 ? 9 : random.nextInt(7), 0, 0, calls, seed);
+                compare(x, model, 29, random.nextInt(30) / 4, 0, 0, calls, seed);
+                compare(x, model, 23, 1 + random.nextInt(doors), 0, 0, calls, seed);
+                compare(x, model, 25, 1 + random.nextInt(doors), 0, 0, calls, seed);
+                compare(x, model, 26, 0, 0, 0, calls, seed);
+            }
+            compare(x, model, 2, random.nextInt(7), 0, 0, calls, seed);
+        }
+    }
+
+    private static void tell(TurnsMultiples x, Model model, String text, List<String> calls, int seed) {
+        for (int i = 0; i < text.length(); i++) {
+            compare(x, model, 30, text.charAt(i), 0, 0, calls, seed);
+        }
+        compare(x, model, 31, 0, 0, 0, calls, seed);
     }
 
     private static int argument(Random random, int call, Model model) {
@@ -157,6 +199,14 @@ public final class TurnsMultiplesModelTest {
                 }
             }
             return text.toString();
+        }
+
+        static String digits(Random random, char head, int doors, int colours) {
+            StringBuilder text = new StringBuilder().append(head);
+            for (int door = 0; door < doors; door++) {
+                text.append(head == 'w' && random.nextInt(3) == 0 ? 9 : random.nextInt(colours));
+            }
+            return text.append(';').toString();
         }
 
         static String number(Random random, int number) {

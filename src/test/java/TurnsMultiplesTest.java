@@ -129,6 +129,7 @@ public final class TurnsMultiplesTest {
         due("n: all at 0", x.state(), 0);
         due("n: none stuck", x.count(4), 0);
         due("n: any wish", x.door(1, 1), 9);
+        due("n: the wish is so", x.wished(), 1);
         due("n: colours stay", x.count(1), 3);
         due("n: people stay", x.count(2), 3);
         tell(x, "h222222;s1;w222222;");
@@ -136,6 +137,7 @@ public final class TurnsMultiplesTest {
         due("k: all at 0", x.state(), 0);
         due("k: none stuck", x.count(4), 0);
         due("k: any wish", x.door(6, 1), 9);
+        due("k: the wish is so", x.wished(), 1);
         due("k: doors stay", x.count(0), 6);
         TurnsMultiples y = housed("n12;w111111111111;h010101010101;");
         due("twelve doors", y.state(), 2730);
@@ -512,6 +514,12 @@ public final class TurnsMultiplesTest {
         due("three colours need", tell(three, "k3;"), 1);
         due("keys of three", three.keys(0), 3);
         due("nobody", new TurnsMultiples().keys(1), -9);
+        TurnsMultiples odd = housed("n3;k3;pd3,4,1;pd4,1,1;pu2,4,1;");
+        due("doors 1 3, 1 2, 2 3: enough in three colours", odd.keys(1), 7);
+        tell(odd, "k2;");
+        due("not in two: one is both the others", odd.keys(1), -9);
+        due("the same doors", housed("n2;k3;px1,3,1;pd2,1,1;").keys(1), -9);
+        due("a sum of the first two is no key", housed("n3;k3;pe1,4,1;pd1,2,1;px3,2,1;pb1,2,1;").keys(1), 11);
         TurnsMultiples most = housed("n7;pm1,1,1;pm2,2,2;pm3,3,3;pm4,4,4;pm5,5,5;", "pm6,6,6;pm7,7,7;");
         due("seven", most.keys(0), 7);
         due("all seven", most.keys(1), 127);
@@ -659,8 +667,19 @@ public final class TurnsMultiplesTest {
         TurnsMultiples y = housed("n2;k3;pm1,1,1;pu2,2,1;h02;");
         logs(y, 0, 0, 0, 0, 0, 0, 9, 1, 1, 1);
         due("six turns from 0", y.order(1), 2);
+        y.turn(1);
+        due("six turns from 1", y.order(1), 2);
+        tell(y, "h22;");
+        due("six turns from 2", y.order(1), 2);
         due("nine turns from 2", y.order(2), 3);
         due("the log stays", y.count(5), 10);
+        y.clear();
+        logs(y, 0);
+        due("one turn from 2", y.order(1), 1);
+        tell(y, "h10;");
+        due("one turn from 1", y.order(1), 0);
+        logs(y, 0, 1);
+        due("two turns from 1, one goes by", y.order(1), 1);
     }
 
     private static void logs(TurnsMultiples x, int... people) {
@@ -774,6 +793,7 @@ public final class TurnsMultiplesTest {
         due("stuck", x.match(), 2);
         TurnsMultiples y = housed("n3;k3;pm1,1,1;pm1,1,1;w222;h000;");
         due("whatever he does", y.match(), 0);
+        due("where a third going counts", housed("n2;k3;px2,1,1;pe3,1,1;w20;").match(), 1);
         due("stays", y.state(), 0);
         due("no goings", y.count(7), 0);
     }
@@ -796,6 +816,17 @@ public final class TurnsMultiplesTest {
         due("below", x.seeds(-1, 0), -4);
         due("above", x.seeds(100, 0), -6);
         refused(x, 0, 0, 0, 1, 0, 1);
+        int[] firsts = {3960563, 3967065, 3954061, 3954061, 3960563};
+        int[] seedsOfThem = {0, 1, -1, 2147483647, -2147483648};
+        TurnsMultiples seven = housed("n7;" + "pu1,1,1;pu2,2,1;pu3,3,1;pu4,4,1;", "pu5,5,1;pu6,6,1;pu7,7,1;");
+        for (int i = 0; i < firsts.length; i++) {
+            int person = firsts[i] % 7;
+            due("first draw " + i, firstDraw(seedsOfThem[i]), firsts[i]);
+            tell(seven, "h0000000;");
+            due("one of seven " + i, seven.seeds(1, seedsOfThem[i]), 1 << person);
+        }
+        TurnsMultiples alone = housed("n1;k3;pm1,1,1;h2;");
+        due("one alone", alone.seeds(5, 1), 1);
         TurnsMultiples y = new TurnsMultiples();
         due("nobody", y.seeds(0, 0), -3);
         due("nobody, below", y.seeds(-1, 0), -4);
@@ -804,6 +835,11 @@ public final class TurnsMultiplesTest {
         // From seed 0 the first draw is 1013904223 by 256, cut: 3960563, modulo 2: 1.
         TurnsMultiples one = housed("n2;pu1,1,1;pu2,2,1;");
         due("one of two", one.seeds(1, 0), 2);
+    }
+
+    private static int firstDraw(int seed) {
+        long all = (seed * 1664525L + 1013904223L) % (1L << 31);
+        return (int) ((all < 0 ? all + (1L << 31) : all) / 256);
     }
 
     private static void image() {
@@ -854,6 +890,15 @@ public final class TurnsMultiplesTest {
         due("state", x.state(), state);
         due("log", x.count(5), 2);
         due("goings", x.count(7), 1);
+        TurnsMultiples y = housed("n2;pu1,1,1;pu2,2,1;");
+        logs(y, 0, 1, 1);
+        y.image();
+        y.clear();
+        logs(y, 1, 0, 0, 9);
+        y.on();
+        due("the log as then: door 1", y.run(1), 1);
+        due("the log as then: door 2", y.run(2), 0);
+        due("the log as then", y.count(5), 3);
     }
 
     private static int tell2(TurnsMultiples x, String rest) {
