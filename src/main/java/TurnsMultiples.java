@@ -1086,12 +1086,12 @@ public final class TurnsMultiples {
 
     /** A match of two, judged from its ends backwards. */
     private static final class Game {
-        private static final byte LOSES = 0;
-        private static final byte WINS = 1;
-        private static final byte NEITHER = 2;
+        private static final int LOSES = 0;
+        private static final int WINS = 1;
+        private static final int NEITHER = 2;
 
-        private final byte[] verdicts = new byte[MOST_ROWS];
-        private final byte[] hopes = new byte[MOST_ROWS];
+        private final int[] verdicts = new int[MOST_ROWS];
+        private final int[] hopes = new int[MOST_ROWS];
         private final int[] judgedRows = new int[MOST_ROWS];
         private int judgedCount;
 
@@ -1111,7 +1111,7 @@ public final class TurnsMultiples {
             judgedCount = 0;
             for (int row = 0; row < rows.size && row < verdicts.length && row < hopes.length; row++) {
                 verdicts[row] = NEITHER;
-                hopes[row] = (byte) corridor.people;
+                hopes[row] = corridor.people;
                 if (corridor.isWish(rows.endOf(row))) {
                     settle(row, LOSES);
                 }
@@ -1119,7 +1119,7 @@ public final class TurnsMultiples {
         }
 
         // Who can leave a lost row to the other wins; who can leave him none but won ones loses.
-        private void tellBack(int row, byte verdict, Rows rows) {
+        private void tellBack(int row, int verdict, Rows rows) {
             if (row < 0 || row >= rows.size || row >= hopes.length || verdictOf(row) != NEITHER) {
                 return;
             }
@@ -1133,11 +1133,11 @@ public final class TurnsMultiples {
             }
         }
 
-        private byte verdictOf(int row) {
+        private int verdictOf(int row) {
             return row >= 0 && row < verdicts.length ? verdicts[row] : NEITHER;
         }
 
-        private void settle(int row, byte verdict) {
+        private void settle(int row, int verdict) {
             if (row >= 0 && row < verdicts.length && judgedCount >= 0 && judgedCount < judgedRows.length) {
                 verdicts[row] = verdict;
                 judgedRows[judgedCount] = row;

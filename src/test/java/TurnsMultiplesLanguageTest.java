@@ -59,10 +59,16 @@ public final class TurnsMultiplesLanguageTest {
         due(methods.equals(new TreeSet<>(Arrays.asList(FACE))), "the methods of the face: " + methods);
         for (Field field : face.getDeclaredFields()) {
             due(Modifier.isPrivate(field.getModifiers()), field + " is private");
+            due(!Modifier.isStatic(field.getModifiers()) || isConstant(field.getType()), field + " is a constant");
         }
         Constructor<?>[] constructors = face.getDeclaredConstructors();
         due(constructors.length == 1 && Modifier.isPublic(constructors[0].getModifiers())
                 && constructors[0].getParameterCount() == 0, "the one constructor");
+    }
+
+    private static boolean isConstant(Class<?> type) {
+        return Arrays.asList(int.class, long.class, boolean.class, char.class, String.class, int[].class, long[].class,
+                char[].class, byte[].class).contains(type);
     }
 
     private static void inside() {
@@ -81,7 +87,8 @@ public final class TurnsMultiplesLanguageTest {
             }
             for (Field field : inner.getDeclaredFields()) {
                 int modifiers = field.getModifiers();
-                due(!Modifier.isStatic(modifiers) || Modifier.isFinal(modifiers), field + " is final if static");
+                due(!Modifier.isStatic(modifiers) || Modifier.isFinal(modifiers) && isConstant(field.getType()),
+                        field + " is a constant if static");
             }
         }
     }
