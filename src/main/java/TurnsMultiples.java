@@ -130,30 +130,11 @@ public final class TurnsMultiples {
     }
 
     public int state() {
-        return now.stateNumber();
+        return now.stateOf(now.stand);
     }
 
     public int wished() {
         return now.isWish(now.stand) ? 1 : 0;
-    }
-
-    public int seeds(int n, int z) {
-        if (n < 0) {
-            return refuse(BELOW);
-        }
-        if (n > MOST_DRAWN) {
-            return refuse(ROOM);
-        }
-        int people = now.people;
-        if (people < 1) {
-            return refuse(STATE);
-        }
-        int seed = z;
-        for (int i = 0; i < n; i++) {
-            seed = seed * 1664525 + 1013904223;
-            now.goAlong((seed & ALL_BUT_SIGN) / 256 % people);
-        }
-        return now.stateNumber();
     }
 
     // ---- the one way to every state
@@ -456,6 +437,29 @@ public final class TurnsMultiples {
         return game.judged(now, rows);
     }
 
+    // ---- goings by seeds
+
+    // It is asked how it would stand then: nobody goes.
+    public int seeds(int n, int z) {
+        if (n < 0) {
+            return refuse(BELOW);
+        }
+        if (n > MOST_DRAWN) {
+            return refuse(ROOM);
+        }
+        if (now.people < 1) {
+            return refuse(STATE);
+        }
+        int stand = now.stand;
+        int seed = z;
+        for (int i = 0; i < n; i++) {
+            seed = seed * 1664525 + 1013904223;
+            int person = remainder((seed & ALL_BUT_SIGN) / 256, now.people);
+            stand = turned(stand, now.turnsOf(person), now.colours);
+        }
+        return now.stateOf(stand);
+    }
+
     // ---- the image
 
     public int image() {
@@ -667,10 +671,10 @@ public final class TurnsMultiples {
             return (how & minded) == wanted;
         }
 
-        private int stateNumber() {
+        private int stateOf(int how) {
             int number = 0;
             for (int door = doors; door >= 1; door--) {
-                number = number * colours + wayOf(stand, door);
+                number = number * colours + wayOf(how, door);
             }
             return number;
         }

@@ -771,12 +771,13 @@ public final class TurnsMultiplesModelTest {
             if (goers.isEmpty()) {
                 return refuse(3);
             }
+            int[] at = ways;
             int seed = z;
             for (int i = 0; i < n; i++) {
                 seed = seed * 1664525 + 1013904223;
-                go((seed << 1 >>> 9) % goers.size());
+                at = gone(at, (seed << 1 >>> 9) % goers.size(), 1);
             }
-            return state();
+            return number(at);
         }
 
         int image() {

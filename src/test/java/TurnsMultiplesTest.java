@@ -68,6 +68,7 @@ public final class TurnsMultiplesTest {
         image();
         on();
         count();
+        whatIsAskedIsNotDone();
         System.out.println(wrong == 0 ? "every promise holds" : wrong + " answers are not as due");
         if (wrong != 0) {
             System.exit(1);
@@ -811,8 +812,17 @@ public final class TurnsMultiplesTest {
         }
         int then = ways[0] % 3 + 9 * (ways[2] % 3);
         due("99", x.seeds(99, -77), then);
-        due("they went", x.state(), then);
-        due("goings", x.count(7), 99);
+        due("nobody went", x.state(), 0);
+        due("no goings", x.count(7), 0);
+        due("99 once more", x.seeds(99, -77), then);
+        due("none, once more", x.seeds(0, -77), 0);
+        tell(x, "h212;");
+        due("none from now", x.seeds(0, -77), 2 + 3 + 18);
+        int later = (2 + ways[0]) % 3 + 3 + 9 * ((2 + ways[2]) % 3);
+        due("99 from now", x.seeds(99, -77), later);
+        due("as it stood", x.state(), 2 + 3 + 18);
+        due("no goings still", x.count(7), 0);
+        due("no going is logged", x.count(5), 0);
         due("below", x.seeds(-1, 0), -4);
         due("above", x.seeds(100, 0), -6);
         refused(x, 0, 0, 0, 1, 0, 1);
@@ -822,7 +832,6 @@ public final class TurnsMultiplesTest {
         for (int i = 0; i < firsts.length; i++) {
             int person = firsts[i] % 7;
             due("first draw " + i, firstDraw(seedsOfThem[i]), firsts[i]);
-            tell(seven, "h0000000;");
             due("one of seven " + i, seven.seeds(1, seedsOfThem[i]), 1 << person);
         }
         TurnsMultiples alone = housed("n1;k3;pm1,1,1;h2;");
@@ -929,5 +938,46 @@ public final class TurnsMultiplesTest {
         x.nth(0);
         x.nth(41);
         refused(x, 1, 1, 1, 1, 0, 1);
+    }
+
+    /** Only what its promise says changes something: of all other calls each can be asked twice. */
+    private static void whatIsAskedIsNotDone() {
+        TurnsMultiples x = housed("n4;k3;pm1,1,1;pm2,1,2;pu3,4,3;pd3,1,0;s4;", "w1929;h2101;");
+        x.go(1);
+        logs(x, 0, 1, 0, 2);
+        x.letter('n');
+        int[] stands = standing(x);
+        int[] answers = asked(x);
+        int[] again = asked(x);
+        for (int i = 0; i < answers.length; i++) {
+            due("asked again, " + i, again[i], answers[i]);
+        }
+        int[] then = standing(x);
+        for (int i = 0; i < stands.length; i++) {
+            due("stands as before, " + i, then[i], stands[i]);
+        }
+        refused(x);
+    }
+
+    private static int[] asked(TurnsMultiples x) {
+        return new int[] {
+            x.door(1, 0), x.person(0, 4), x.state(), x.wished(), x.way(5, 2, 0), x.way(5, 2, 1), x.can(), x.fewest(),
+            x.cheapest(), x.how(0), x.how(1), x.nothing(), x.states(), x.keys(0), x.keys(1), x.been(), x.sure(),
+            x.forEver(12), x.nth(7), x.open(50), x.order(1), x.order(2), x.fills(), x.run(1), x.run(3), x.judge(),
+            x.match(), x.seeds(1, 5), x.seeds(2, 0), x.seeds(98, 7), x.image(), x.count(3)};
+    }
+
+    private static int[] standing(TurnsMultiples x) {
+        int[] all = new int[21];
+        for (int what = 0; what <= 7; what++) {
+            all[what] = x.count(what);
+        }
+        all[8] = x.state();
+        for (int door = 1; door <= 4; door++) {
+            for (int what = 0; what <= 2; what++) {
+                all[6 + 3 * door + what] = x.door(door, what);
+            }
+        }
+        return all;
     }
 }
