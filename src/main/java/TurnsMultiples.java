@@ -10,6 +10,8 @@ public final class TurnsMultiples {
     private static final int MOST_DRAWN = 99;
     private static final int ALL_BUT_SIGN = 0x7fffffff;
     private static final int FARTHEST_DOOR = 1000000000;
+    // The greatest number whose square is no farther.
+    private static final int FARTHEST_ROOT = 31622;
     private static final int FARTHEST_COUNTED = 2000;
     private static final int MOST_NTH = 40;
     private static final int UNKNOWN = 9;
@@ -575,7 +577,7 @@ public final class TurnsMultiples {
     private static int divisorsOf(int number) {
         int divisors = 1;
         int rest = number;
-        for (int prime = 2; prime <= rest / prime; prime++) {
+        for (int prime = 2; prime <= FARTHEST_ROOT && prime * prime <= rest; prime++) {
             int times = 0;
             while (times < 31 && goesInto(prime, rest)) {
                 rest /= prime;

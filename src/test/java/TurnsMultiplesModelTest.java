@@ -26,7 +26,7 @@ public final class TurnsMultiplesModelTest {
         TurnsMultiples x = new TurnsMultiples();
         Model model = new Model();
         List<String> calls = new ArrayList<>();
-        while (calls.size() < 480) {
+        while (calls.size() < 440) {
             if (random.nextInt(8) == 0) {
                 String text = Texts.some(random, model);
                 for (int i = 0; i < text.length() && i < 64; i++) {

@@ -1,36 +1,5 @@
 /** A test for each promise: ordinary inputs, the edges that the document names, wrong inputs. */
-public final class TurnsMultiplesTest {
-    private static int wrong = 0;
-
-    private static void due(String call, int got, int want) {
-        if (got != want) {
-            wrong++;
-            System.out.println(call + " answered " + got + ", due is " + want);
-        }
-    }
-
-    private static int tell(TurnsMultiples x, String text) {
-        for (int i = 0; i < text.length(); i++) {
-            due("letter " + i + " of " + text, x.letter(text.charAt(i)), i + 1);
-        }
-        return x.house();
-    }
-
-    private static TurnsMultiples housed(String... texts) {
-        TurnsMultiples x = new TurnsMultiples();
-        for (String text : texts) {
-            int statements = text.length() - text.replace(";", "").length();
-            due("house of " + text, tell(x, text), statements);
-        }
-        return x;
-    }
-
-    private static void refused(TurnsMultiples x, int... counts) {
-        for (int i = 0; i < 6; i++) {
-            due("count(" + (11 + i) + ")", x.count(11 + i), i < counts.length ? counts[i] : 0);
-        }
-    }
-
+public final class TurnsMultiplesTest extends Dues {
     public static void main(String[] args) {
         newObject();
         letter();
@@ -69,10 +38,7 @@ public final class TurnsMultiplesTest {
         on();
         count();
         whatIsAskedIsNotDone();
-        System.out.println(wrong == 0 ? "every promise holds" : wrong + " answers are not as due");
-        if (wrong != 0) {
-            System.exit(1);
-        }
+        end("every promise holds");
     }
 
     private static void newObject() {
@@ -251,14 +217,6 @@ public final class TurnsMultiplesTest {
         due("what -1", x.person(0, -1), -2);
         due("nobody yet", new TurnsMultiples().person(0, 0), -1);
         refused(x, 2, 2);
-    }
-
-    private static int bits(int... doors) {
-        int bits = 0;
-        for (int door : doors) {
-            bits |= 1 << (door - 1);
-        }
-        return bits;
     }
 
     private static void go() {
@@ -683,13 +641,6 @@ public final class TurnsMultiplesTest {
         due("two turns from 1, one goes by", y.order(1), 1);
     }
 
-    private static void logs(TurnsMultiples x, int... people) {
-        for (int person : people) {
-            int before = x.count(5);
-            due("log(" + person + ")", x.log(person), before + 1);
-        }
-    }
-
     private static void fills() {
         TurnsMultiples x = housed("n3;k3;pm1,1,1;pm2,1,1;pm1,1,1;");
         due("no log, all at 0", x.fills(), 1);
@@ -871,7 +822,7 @@ public final class TurnsMultiplesTest {
         int state = x.state();
         x.letter('n');
         due("image", x.image(), 1);
-        due("another house", tell2(x, "5;k2;pm3,2,1;s1;w00000;h11111;"), 6);
+        due("another house", tell(x, "5;k2;pm3,2,1;s1;w00000;h11111;"), 6);
         x.go(1);
         x.clear();
         logs(x, 1);
@@ -908,13 +859,6 @@ public final class TurnsMultiplesTest {
         due("the log as then: door 1", y.run(1), 1);
         due("the log as then: door 2", y.run(2), 0);
         due("the log as then", y.count(5), 3);
-    }
-
-    private static int tell2(TurnsMultiples x, String rest) {
-        for (int i = 0; i < rest.length(); i++) {
-            due("letter", x.letter(rest.charAt(i)), i + 2);
-        }
-        return x.house();
     }
 
     private static void count() {
